@@ -26,9 +26,16 @@ final class Check {
             call.accept(called);
         } catch (RuntimeException e) {
             got = e.getClass().getName();
+            is("who throws at " + what, thrower(e), "BadgeZones");
         }
         is(what, got, kind.getName());
         is("what stands after " + what, Picture.withFuture(called), Picture.withFuture(house.get()));
+    }
+
+    /** The program itself has to throw, not the machine or the library in it. */
+    private static String thrower(RuntimeException e) {
+        StackTraceElement[] trace = e.getStackTrace();
+        return trace.length == 0 ? "unknown" : trace[0].getClassName();
     }
 
     static void outOfBounds(String what, Supplier<BadgeZones> house, Consumer<BadgeZones> call) {

@@ -170,7 +170,11 @@ public final class HouseTest {
         Check.is("ahead of the beginning", x.isOpen(1), false);
         x.tick(1);
         Check.is("at the beginning", x.isOpen(1), true);
-        x.tick(40);
+        x.tick(1);
+        Check.is("after the beginning", x.isOpen(1), true);
+        x.tick(38);
+        Check.is("just ahead of midnight", x.isOpen(1), true);
+        x.tick(1);
         Check.is("over midnight", x.isOpen(1), true);
         Check.is("end 0 at minute 1440", x.isOpen(2), false);
     }
