@@ -5,8 +5,18 @@ import java.util.function.Supplier;
 final class Check {
     private static int passed = 0;
     private static int failed = 0;
+    private static String about = "";
 
     private Check() {
+    }
+
+    /** Says ahead of each answer that is wrong from here on what it is about. */
+    static void about(String what) {
+        about = what;
+    }
+
+    static int count() {
+        return passed + failed;
     }
 
     static void is(String what, Object got, Object want) {
@@ -15,7 +25,7 @@ final class Check {
             return;
         }
         failed++;
-        System.out.println(what + " answered " + got + ", due is " + want);
+        System.out.println(about + what + " answered " + got + ", due is " + want);
     }
 
     /** The call throws just this exception, and the object goes on like one that never got the call. */
@@ -26,16 +36,16 @@ final class Check {
             call.accept(called);
         } catch (RuntimeException e) {
             got = e.getClass().getName();
-            is("who throws at " + what, thrower(e), "BadgeZones");
+            is("who throws at " + what, isThrownByTheProgram(e), true);
         }
         is(what, got, kind.getName());
         is("what stands after " + what, Picture.withFuture(called), Picture.withFuture(house.get()));
     }
 
     /** The program itself has to throw, not the machine or the library in it. */
-    private static String thrower(RuntimeException e) {
+    private static boolean isThrownByTheProgram(RuntimeException e) {
         StackTraceElement[] trace = e.getStackTrace();
-        return trace.length == 0 ? "unknown" : trace[0].getClassName();
+        return trace.length > 0 && trace[0].getClassName().split("\\$")[0].equals("BadgeZones");
     }
 
     static void outOfBounds(String what, Supplier<BadgeZones> house, Consumer<BadgeZones> call) {

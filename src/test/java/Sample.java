@@ -57,4 +57,36 @@ final class Sample {
         }
         return x;
     }
+
+    /** Zones 0 and 1 with a door between them that is never open, and badges with the right for zone 1. */
+    static BadgeZones hall(int capacity, int staff) {
+        BadgeZones x = new BadgeZones();
+        x.addZone(capacity, 0, 1440);
+        x.addDoor(0, 1, 0, 0);
+        for (int badge = 0; badge < staff; badge++) {
+            x.addBadge(2);
+        }
+        return x;
+    }
+
+    /** Zones 0 and 1, and a badge with the right for zone 1. */
+    static BadgeZones withoutDoors() {
+        BadgeZones x = new BadgeZones();
+        x.addZone(1, 0, 1440);
+        x.addBadge(2);
+        return x;
+    }
+
+    /** Lets minutes pass until it is that minute. */
+    static BadgeZones at(int minute, BadgeZones x) {
+        for (int left = minute - x.now(); left > 0; left -= 2000) {
+            x.tick(Math.min(left, 2000));
+        }
+        return x;
+    }
+
+    /** Numbers of which none is 0 to count - 1, the nearest ones first. */
+    static int[] beyond(int count) {
+        return new int[] {-1, count, count + 1, Integer.MIN_VALUE, Integer.MAX_VALUE};
+    }
 }
