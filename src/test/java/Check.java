@@ -43,7 +43,7 @@ final class Check {
     }
 
     /** The program itself has to throw, not the machine or the library in it. */
-    private static boolean isThrownByTheProgram(RuntimeException e) {
+    static boolean isThrownByTheProgram(Throwable e) {
         StackTraceElement[] trace = e.getStackTrace();
         return trace.length > 0 && trace[0].getClassName().split("\\$")[0].equals("BadgeZones");
     }

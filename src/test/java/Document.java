@@ -7,8 +7,8 @@ import java.util.Set;
 import java.util.TreeSet;
 
 /**
- * The sentences of ../shared/DOC.md, from its Description to its last promise; parts that a semicolon ends count as
- * sentences. A test quotes the one that it is about, so that none is left without a test.
+ * The sentences of ../shared/DOC.md, from its first line to its last; parts that a semicolon ends count as sentences.
+ * A test quotes the one that it is about, so that none is left without a test. The face is FaceTest's.
  */
 final class Document {
     private static final Path PAGE = Path.of("../shared/DOC.md");
@@ -21,14 +21,17 @@ final class Document {
     private Document() {
     }
 
-    /** What is checked from here on is about this sentence of the Description. */
-    static void description(String sentence) {
-        quote("Description: " + sentence);
+    /** What is checked from here on is about this sentence of the part with that heading. */
+    static void part(String heading, String sentence) {
+        quote(heading + ": " + sentence);
     }
 
-    /** What is checked from here on is about this sentence of a promise. */
+    static void description(String sentence) {
+        part("Description", sentence);
+    }
+
     static void promise(int number, String sentence) {
-        quote("Promise " + number + ": " + sentence);
+        part("Promise " + number, sentence);
     }
 
     /** After the last test: each sentence has been quoted. */
@@ -58,11 +61,14 @@ final class Document {
     private static Set<String> read() {
         Set<String> sentences = new LinkedHashSet<>();
         String place = "";
+        boolean isFace = false;
         try {
             for (String line : Files.readAllLines(PAGE)) {
                 if (line.startsWith("#")) {
                     place = placeOf(line);
-                } else if (!place.isEmpty() && isProse(line)) {
+                } else if (line.startsWith("```")) {
+                    isFace = !isFace;
+                } else if (!isFace && isProse(line)) {
                     addSentences(sentences, place, line);
                 }
             }
@@ -72,11 +78,9 @@ final class Document {
         return sentences;
     }
 
+    /** What stands behind the number of a promise is the name of its method. */
     private static String placeOf(String heading) {
-        if (heading.equals("## Description")) {
-            return "Description";
-        }
-        return heading.startsWith("## Promise ") ? heading.substring(3, heading.indexOf(':')) : "";
+        return heading.replaceAll("^#+ |:.*$", "");
     }
 
     /** No signature and no group's name; of the parameters those alone that are told with numbers. */

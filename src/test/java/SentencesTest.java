@@ -1,8 +1,9 @@
 import java.io.IOException;
 
-/** The document's sentences from its Description to promise 26: each has a test that quotes it, and none is left out. */
+/** The document's sentences from its first to its last: each has a test that quotes it, and none is left out. */
 public final class SentencesTest {
     public static void main(String[] args) throws IOException {
+        FrameSentences.test();
         HouseSentences.test();
         BadgeSentences.test();
         RequestSentences.test();
